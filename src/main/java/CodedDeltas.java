@@ -741,6 +741,7 @@ public final class CodedDeltas {
         Reader(int room) {
             made = new Row(room);
             origins = new int[Math.max(room, 0)];
+            // Until begin() sets them these stand for nothing, so that none is ever null.
             source = made;
             delta = made;
             steps = new Steps(0);
@@ -1134,6 +1135,7 @@ public final class CodedDeltas {
         boolean codeLacks;
 
         Writer() {
+            // As in Reader: no null before begin().
             out = data;
             steps = new Steps(0);
         }

@@ -16,6 +16,7 @@ public final class JoinTest {
         faults();
         fromB();
         longOnes();
+        shorterThanBefore();
         due.end();
     }
 
@@ -145,6 +146,18 @@ public final class JoinTest {
         due.is("its place", x.told(1), 7);
         x = object(two, Rows.plain(Rows.window(1, 2, 0, Rows.tail(4, NO, of(20), of(0)))));
         joined("a segment of B", x, Rows.plain(Rows.window(1, 100, 0, Rows.tail(4, of(5, 6, 5, 6), of(5), NO))));
+    }
+
+    /** What an earlier, longer row came from has nothing to do with a later one. */
+    private static void shorterThanBefore() {
+        int[] all = Rows.plain(Rows.window(1, 100, 0, Rows.tail(100, NO, of(19, 100), of(0))));
+        CodedDeltas x = object(all, all);
+        due.is("all of SOURCE", x.join() > 0 ? 1 : 0, 1);
+        Rows.set(x, Rows.SECOND, Rows.plain(Rows.window(1, 100, 0, Rows.tail(5, NO, of(21), of(0)))));
+        joined("five octets of it", x, Rows.plain(Rows.window(1, 100, 0, Rows.tail(5, NO, of(21), of(0)))));
+        steps(x, of(3, 5, 0, 0, 21, 0));
+        Rows.set(x, Rows.SECOND, Rows.plain(Rows.window(1, 5, 0, Rows.tail(3, NO, of(19, 3), of(0)))));
+        joined("three octets of it", x, Rows.plain(Rows.window(1, 100, 0, Rows.tail(3, of(0, 1, 2), of(4), NO))));
     }
 
     private static void longOnes() {

@@ -220,6 +220,10 @@ public final class ReadTest {
         due.is("its mode", x.instruction(1, 3), 8);
         due.is("first of them", x.instruction(3, 2), 996);
         due.is("as SOURCE has it", x.octet(Rows.TARGET, 12), x.octet(Rows.SOURCE, 996));
+        // 768 stands at 0 of the first of the three.
+        Rows.set(x, Rows.DELTA, Rows.plain(of(1, 135, 104, 0, 5 + 2 + 3, 8, 0, 0, 2, 3), of(20, 116), of(134, 0, 0)));
+        due.is("the first place of the same ones", x.read(), 8);
+        due.is("its address", x.instruction(1, 2), 768);
         int[] again = Rows.window(1, 90, 0, Rows.tail(4, NO, of(116), of(70)));
         right("caches begin anew", Rows.plain(Rows.window(1, 90, 0, Rows.tail(4, NO, of(20), of(70))), again),
                 70, 71, 72, 73, 0, 1, 2, 3);
@@ -278,6 +282,7 @@ public final class ReadTest {
         wrong("SAME lacks", of(214, 195, 196, 0, 2, 127, 8), 1, 7, 0, 0);
         wrong("SAME 5", of(214, 195, 196, 0, 2, 127, 8, 5), 18, 7, 0, 0);
         wrong("data lack", of(214, 195, 196, 0, 2, 127, 8, 4, 1, 1), 1, 10, 0, 0);
+        wrong("one octet lacks", of(214, 195, 196, 0, 2, 7, 8, 4, 214, 195, 196, 0), 1, 12, 0, 0);
         wrong("data lack by far", of(214, 195, 196, 0, 2, 135, 255, 255, 255, 127, 8, 4), 1, 12, 0, 0);
         wrong("no DELTA", withTable(of(4, 3)), 18, 8, 0, 0);
         wrong("its DELTA's first octet", withTable(of(4, 3, 213)), 18, 8, 0, 0);

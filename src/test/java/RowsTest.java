@@ -115,6 +115,12 @@ public final class RowsTest {
         CodedDeltas x = new CodedDeltas();
         due.is("kind 3 in an empty row", x.fill(0, 3, 1, 0), 1);
         due.is("its first octet", x.octet(0, 0), 1013904223 >>> 24);
+        due.is("kind 3 behind one octet", x.fill(0, 3, 1, 0), 2);
+        due.is("as the one before it", x.octet(0, 1), x.octet(0, 0));
+        Rows.set(x, 1, 9, 2, 3, 4, 5, 6, 7, 8, 9, 10, 11, 12, 13, 14, 15, 16);
+        x.fill(1, 2, 2, 0);
+        due.is("kind 2 behind 16 octets", x.octet(1, 16), 1013904223 >>> 24);
+        due.is("kind 2 behind 17 octets", x.octet(1, 17), 9);
         due.is("no row", x.fill(4, 0, 1, 1), -2);
         due.is("no row", x.fill(-1, 0, 1, 1), -2);
         due.is("kind 4", x.fill(0, 4, 1, 1), -2);
@@ -124,8 +130,8 @@ public final class RowsTest {
         due.is("too many", x.fill(0, 0, 4000, 1), -4);
         due.is("too many", x.fill(0, 0, Integer.MAX_VALUE, 1), -4);
         due.is("-2 before -4", x.fill(0, 7, 4000, 1), -2);
-        due.is("nothing changed", x.length(0), 1);
-        due.is("the rest", x.fill(0, 0, 3999, 1), 4000);
+        due.is("nothing changed", x.length(0), 2);
+        due.is("the rest", x.fill(0, 0, 3998, 1), 4000);
     }
 
     private static void copy() {

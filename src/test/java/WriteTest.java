@@ -35,6 +35,8 @@ public final class WriteTest {
         codes();
         ownTable();
         ownTableChanged();
+        codeZero();
+        fewCaches();
         noCode();
         wrongTable();
         noRoom();
@@ -298,6 +300,47 @@ public final class WriteTest {
         due.is("it reads", x.read(), 17);
         due.is("without OWN TABLE", x.write(1, 1, 50, false) > 0 ? 1 : 0, 1);
         step(x, 0, COPY, 8, 0, 0, 24, 0);
+    }
+
+    private static void codeZero() {
+        CodedDeltas x = object("abcdefgh", "abcdefghZ");
+        part(x, 0, 0, COPY, 8, 0);
+        part(x, 0, 1, ADD, 1, 0);
+        x.write(1, 1, 50, true);
+        step(x, 0, COPY, 8, 0, 0, 0, 0);
+        step(x, 1, ADD, 1, 0, 0, 0, 0);
+        due.is("it reads", x.read(), 9);
+        part(x, 0, 1, 0, 0, 0);
+        x.write(1, 1, 50, true);
+        step(x, 0, COPY, 8, 0, 0, 0, 0);
+        step(x, 1, ADD, 1, 0, 0, 2, 0);
+        due.is("it reads", x.read(), 9);
+    }
+
+    /** One near address and one times 256 same ones, or one of both alone. */
+    private static void fewCaches() {
+        CodedDeltas x = pieces(2000, of(600, 1000, 600, 610, 856, 1300, 600, 1300));
+        for (int code = 0; code < 256; code++) {
+            x.tableOctet(code, 0);
+            x.tableOctet(256 + code, 0);
+        }
+        part(x, 10, 0, ADD, 0, 0);
+        part(x, 11, 0, RUN, 0, 0);
+        int[][] caches = {{1, 1}, {0, 1}, {1, 0}, {0, 0}};
+        int[][] modes = {{0, 0, 3, 2, 0, 0, 0, 3}, {0, 0, 2, 0, 0, 0, 0, 2}, {0, 0, 0, 2, 0, 0, 0, 0}, {0, 0, 0, 0, 0, 0, 0, 0}};
+        for (int i = 0; i < 4; i++) {
+            x.caches(caches[i][0], caches[i][1]);
+            for (int mode = 0; mode < 4; mode++) {
+                part(x, 20 + mode, 0, mode < caches[i][0] + caches[i][1] + 2 ? COPY : 0, 0, mode);
+            }
+            due.is("written", x.write(1, 1, 4000, true) > 0 ? 1 : 0, 1);
+            for (int k = 0; k < 8; k++) {
+                step(x, 2 * k, COPY, 20);
+                due.is("caches " + i + ", mode of " + k, x.instruction(2 * k, 3), modes[i][k]);
+                due.is("its code", x.instruction(2 * k, 4), 20 + modes[i][k]);
+            }
+            due.is("it reads", x.read(), 8 * 23);
+        }
     }
 
     private static void part(CodedDeltas x, int code, int part, int kind, int size, int mode) {
