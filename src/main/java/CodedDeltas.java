@@ -40,6 +40,7 @@ public final class CodedDeltas {
 
     private static final int LACKS = -1;
     private static final int NO_NUMBER = -2;
+    private static final int MOST_NUMBER = 0x7FFFFFFF;
     private static final int MADE_OF_DATA = -1;
 
     private static final int LEAST_RUN = 6;
@@ -706,7 +707,7 @@ public final class CodedDeltas {
                 }
                 v = v * 128 + (octet & 127);
                 if (octet < 128) {
-                    return v > Integer.MAX_VALUE ? NO_NUMBER : (int) v;
+                    return v > MOST_NUMBER ? NO_NUMBER : (int) v;
                 }
             }
             return NO_NUMBER;
