@@ -50,18 +50,38 @@ final class Rows {
         return join(of(214, 195, 196, 0, 0), join(windows));
     }
 
-    /** A window without segment, of fewer than 128 octets in each of its sizes. */
+    /** As few octets as tell a NUMBER. */
+    static int[] number(long v) {
+        int size = 1;
+        while (v >> 7 * size != 0) {
+            size++;
+        }
+        return longNumber(v, size);
+    }
+
+    /** A NUMBER in so many octets. */
+    static int[] longNumber(long v, int size) {
+        int[] octets = new int[size];
+        for (int i = 0; i < size; i++) {
+            int seven = (int) (v >> 7 * (size - 1 - i) & 127);
+            octets[i] = i < size - 1 ? 128 | seven : seven;
+        }
+        return octets;
+    }
+
+    /** A window without segment. */
     static int[] window(int makes, int[] data, int[] codes, int[] addresses) {
         return join(of(0), tail(makes, data, codes, addresses));
     }
 
-    /** A window with a segment of fewer than 128 octets. */
+    /** A window with a segment. */
     static int[] window(int kind, int size, int from, int[] tail) {
-        return join(of(kind, size, from), tail);
+        return join(of(kind), number(size), number(from), tail);
     }
 
     static int[] tail(int makes, int[] data, int[] codes, int[] addresses) {
-        int follow = 5 + data.length + codes.length + addresses.length;
-        return join(of(follow, makes, 0, data.length, codes.length, addresses.length), data, codes, addresses);
+        int[] rest = join(number(makes), of(0), number(data.length), number(codes.length),
+                number(addresses.length), data, codes, addresses);
+        return join(number(rest.length), rest);
     }
 }

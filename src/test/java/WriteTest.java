@@ -1,5 +1,4 @@
 import java.util.Arrays;
-import java.util.Random;
 
 /** Promises 12 and 16: what is written, and its instructions. */
 public final class WriteTest {
@@ -8,15 +7,6 @@ public final class WriteTest {
     private static final int ADD = 1;
     private static final int RUN = 2;
     private static final int COPY = 3;
-    /** Kinds of parts that a DELTA from the first table can hardly tell in fewer octets. */
-    private static final String PARTS = "1223232122102203303003131331230022201100312200300113102022302112"
-            + "0130323120212030311300033322211031022121320322111030133200023201"
-            + "0311323302012122122311012312001013201233130222233313010210130201"
-            + "3311001212012313000030030301200133230001100133133300102303311331"
-            + "0020033103302102023321303130331321032021320303021300111210030033"
-            + "0031121122223032120333301122010133210213322133331022221330113023"
-            + "2301313212003331303131310010313322332002033312330013300311121033"
-            + "0023022322122100100011212230100210113322001312323200300023103000";
 
     private WriteTest() {
     }
@@ -276,13 +266,13 @@ public final class WriteTest {
             x.tableOctet(code, 0);
             x.tableOctet(256 + code, 0);
         }
-        part(x, 9, 0, ADD, 0, 77);
-        part(x, 8, 0, RUN, 7, 5);
-        part(x, 8, 1, ADD, 2, 4);
-        part(x, 7, 0, RUN, 7, 0);
-        part(x, 7, 1, ADD, 2, 0);
-        part(x, 5, 0, COPY, 8, 1);
-        part(x, 6, 0, COPY, 0, 0);
+        Tables.part(x, 9, 0, ADD, 0, 77);
+        Tables.part(x, 8, 0, RUN, 7, 5);
+        Tables.part(x, 8, 1, ADD, 2, 4);
+        Tables.part(x, 7, 0, RUN, 7, 0);
+        Tables.part(x, 7, 1, ADD, 2, 0);
+        Tables.part(x, 5, 0, COPY, 8, 1);
+        Tables.part(x, 6, 0, COPY, 0, 0);
         due.is("right", x.code(1, -1), 1);
         due.is("written", x.write(1, 1, 50, true) > 0 ? 1 : 0, 1);
         step(x, 0, COPY, 8, 0, 0, 6, 0);
@@ -290,9 +280,9 @@ public final class WriteTest {
         step(x, 2, ADD, 2, 0, 0, 7, 0);
         due.is("it reads", x.read(), 17);
         due.is("instructions", x.told(3), 3);
-        part(x, 4, 1, COPY, 8, 0);
-        part(x, 3, 0, COPY, 8, 0);
-        part(x, 3, 1, RUN, 7, 0);
+        Tables.part(x, 4, 1, COPY, 8, 0);
+        Tables.part(x, 3, 0, COPY, 8, 0);
+        Tables.part(x, 3, 1, RUN, 7, 0);
         x.write(1, 1, 50, true);
         step(x, 0, COPY, 8, 0, 0, 3, 0);
         step(x, 1, RUN, 7, 0, 0, 3, 0);
@@ -304,13 +294,13 @@ public final class WriteTest {
 
     private static void codeZero() {
         CodedDeltas x = object("abcdefgh", "abcdefghZ");
-        part(x, 0, 0, COPY, 8, 0);
-        part(x, 0, 1, ADD, 1, 0);
+        Tables.part(x, 0, 0, COPY, 8, 0);
+        Tables.part(x, 0, 1, ADD, 1, 0);
         x.write(1, 1, 50, true);
         step(x, 0, COPY, 8, 0, 0, 0, 0);
         step(x, 1, ADD, 1, 0, 0, 0, 0);
         due.is("it reads", x.read(), 9);
-        part(x, 0, 1, 0, 0, 0);
+        Tables.part(x, 0, 1, 0, 0, 0);
         x.write(1, 1, 50, true);
         step(x, 0, COPY, 8, 0, 0, 0, 0);
         step(x, 1, ADD, 1, 0, 0, 2, 0);
@@ -324,14 +314,14 @@ public final class WriteTest {
             x.tableOctet(code, 0);
             x.tableOctet(256 + code, 0);
         }
-        part(x, 10, 0, ADD, 0, 0);
-        part(x, 11, 0, RUN, 0, 0);
+        Tables.part(x, 10, 0, ADD, 0, 0);
+        Tables.part(x, 11, 0, RUN, 0, 0);
         int[][] caches = {{1, 1}, {0, 1}, {1, 0}, {0, 0}};
         int[][] modes = {{0, 0, 3, 2, 0, 0, 0, 3}, {0, 0, 2, 0, 0, 0, 0, 2}, {0, 0, 0, 2, 0, 0, 0, 0}, {0, 0, 0, 0, 0, 0, 0, 0}};
         for (int i = 0; i < 4; i++) {
             x.caches(caches[i][0], caches[i][1]);
             for (int mode = 0; mode < 4; mode++) {
-                part(x, 20 + mode, 0, mode < caches[i][0] + caches[i][1] + 2 ? COPY : 0, 0, mode);
+                Tables.part(x, 20 + mode, 0, mode < caches[i][0] + caches[i][1] + 2 ? COPY : 0, 0, mode);
             }
             due.is("written", x.write(1, 1, 4000, true) > 0 ? 1 : 0, 1);
             for (int k = 0; k < 8; k++) {
@@ -341,12 +331,6 @@ public final class WriteTest {
             }
             due.is("it reads", x.read(), 8 * 23);
         }
-    }
-
-    private static void part(CodedDeltas x, int code, int part, int kind, int size, int mode) {
-        x.tableOctet(256 * part + code, kind);
-        x.tableOctet(512 + 256 * part + code, size);
-        x.tableOctet(1024 + 256 * part + code, mode);
     }
 
     private static void noCode() {
@@ -362,14 +346,14 @@ public final class WriteTest {
         step(x, 0, ADD, 4, 0, 0, 5, 0);
         due.is("no COPY is needed", x.write(0, 1, 50, true) > 0 ? 1 : 0, 1);
         // A code whose first part is nothing does not help.
-        part(x, 20, 1, COPY, 4, 0);
+        Tables.part(x, 20, 1, COPY, 4, 0);
         due.is("a second part alone", x.write(1, 1, 50, true), -5);
         // The later windows count too.
         x = object("", "0123456789012345678901234567890123456789012345678901");
         x.tableOctet(3, 0);
         x.tableOctet(1, 1);
         due.is("two windows", x.write(0, 0, 50, true) > 0 ? 1 : 0, 1);
-        part(x, 1, 0, ADD, 50, 0);
+        Tables.part(x, 1, 0, ADD, 50, 0);
         due.is("no ADD of 2", x.write(0, 0, 50, true), -5);
         x.cut(Rows.TARGET, 50);
         due.is("one window", x.write(0, 0, 50, true) > 0 ? 1 : 0, 1);
@@ -389,13 +373,13 @@ public final class WriteTest {
     /** A table that is all noise, and a TARGET of which each five octets cost seven. */
     private static void noRoom() {
         CodedDeltas x = new CodedDeltas();
-        int[] string = noise();
+        int[] string = Dear.noise();
         for (int i = 0; i < 1536; i++) {
             x.tableOctet(i, string[i]);
         }
         x.caches(0, 0);
         due.is("right", x.code(1, -1), 1);
-        setDearTarget(x);
+        Dear.setRows(x);
         int[] source = Rows.get(x, Rows.SOURCE);
         int[] target = Rows.get(x, Rows.TARGET);
         Reference.Codes own = new Reference.Codes(string, 0, 0);
@@ -416,57 +400,6 @@ public final class WriteTest {
             due.is("with " + n, x.write(1, 1, 51, true), w.answer);
         }
         due.is("it reads", x.read(), x.length(Rows.TARGET));
-    }
-
-    /** SOURCE is of octets below 128, between which TARGET has single ones above. */
-    private static void setDearTarget(CodedDeltas x) {
-        Random random = new Random(5);
-        for (int i = 0; i < 4000; i++) {
-            x.feed(Rows.SOURCE, random.nextInt(128), 1);
-        }
-        while (x.length(Rows.TARGET) < 4000) {
-            int left = Math.min(51 - x.length(Rows.TARGET) % 51, 4000 - x.length(Rows.TARGET));
-            x.feed(Rows.TARGET, 128 + random.nextInt(128), 1);
-            if (left > 4) {
-                x.copy(Rows.SOURCE, 128 + random.nextInt(3700), 4, Rows.TARGET);
-            }
-        }
-    }
-
-    private static int[] noise() {
-        Random random = new Random(77);
-        int[] string = new int[1536];
-        for (int i = 0; i < 512; i++) {
-            string[i] = PARTS.charAt(i) - '0';
-            string[512 + i] = 30 + random.nextInt(226);
-            string[1024 + i] = string[i] == COPY ? random.nextInt(2) : random.nextInt(256);
-        }
-        // A COPY of four octets now and then breaks up the ADDs, which costs one octet more.
-        for (int i = 0; i < 10; i++) {
-            for (int k = 0; k < 4; k++) {
-                string[512 + 22 * i + 18 + k] = 14 - i + k;
-            }
-        }
-        int from = 1000;
-        for (int i = 1060; i < 1500; i++) {
-            boolean free = true;
-            for (int k = 0; k < 4; k++) {
-                free = free && string[i + k - 1024] != COPY;
-            }
-            if (free) {
-                System.arraycopy(string, from, string, i, 4);
-                from -= 6;
-                i += 21;
-            }
-        }
-        int[][] needed = {{255, ADD, 0}, {254, COPY, 0}, {253, COPY, 1}};
-        for (int[] one : needed) {
-            string[one[0]] = one[1];
-            string[256 + one[0]] = 0;
-            string[512 + one[0]] = 0;
-            string[1024 + one[0]] = one[2];
-        }
-        return string;
     }
 
     private static void longNumbers() {
