@@ -41,6 +41,7 @@ public final class CodedDeltas {
     private static final int LACKS = -1;
     private static final int NO_NUMBER = -2;
     private static final int MOST_NUMBER = 0x7FFFFFFF;
+    private static final int MOST_NUMBER_SIZE = 5;
     private static final int MADE_OF_DATA = -1;
 
     private static final int LEAST_RUN = 6;
@@ -342,7 +343,7 @@ public final class CodedDeltas {
 
     private static int numberSize(int v) {
         int size = 1;
-        for (int rest = v >>> 7; rest != 0; rest >>>= 7) {
+        while (size < MOST_NUMBER_SIZE && v >>> 7 * size != 0) {
             size++;
         }
         return size;
@@ -700,7 +701,7 @@ public final class CodedDeltas {
 
         int nextNumber() {
             long v = 0;
-            for (int i = 0; i < 5; i++) {
+            for (int i = 0; i < MOST_NUMBER_SIZE; i++) {
                 int octet = nextOctet();
                 if (octet < 0) {
                     return LACKS;

@@ -343,6 +343,13 @@ final class EdgesOfCodes {
             edges.isTrue("another segment makes another one", y.write(1, 0, 4000, false) != first);
             edges.isTrue("other windows make another one", y.write(1, 1, 1535, false) != first);
         });
+        edges.test(OWN_TABLE, "without it the first table is used, whatever OWN TABLE is", () -> {
+            CodedDeltas x = object("abcd", "abcdX");
+            x.tableOctet(0, 255);
+            edges.is("written", x.write(1, 1, 50, false), 5 + 9 + 1 + 1 + 1);
+            edges.is("the octet behind the first four", x.octet(Rows.DELTA, 4), 0);
+            edges.is("its code", x.instruction(0, 4), 247);
+        });
         edges.test(OWN_TABLE, "its instructions are not told", () -> {
             CodedDeltas x = new CodedDeltas();
             x.tableOctet(600, 9);

@@ -71,6 +71,9 @@ final class EdgesOfJoining {
         edges.test(JOINED, "one behind the other: neither the same place again, nor one left out, nor backwards", () -> {
             joined("the same again", Rows.plain(ALL), pieces(2, 30, 2, 30), window(4, of(30, 31, 30, 31), of(5), NO));
             joined("one left out", Rows.plain(ALL), pieces(2, 30, 2, 33), window(4, of(30, 31, 33, 34), of(5), NO));
+            joined("the second alone is another", Rows.plain(ALL), pieces(1, 30, 1, 99, 2, 32),
+                    window(4, of(30, 99, 32, 33), of(5), NO));
+            joined("the last alone is another", Rows.plain(ALL), pieces(3, 30, 1, 99), window(4, of(30, 31, 32, 99), of(5), NO));
             joined("backwards", Rows.plain(ALL), pieces(1, 33, 1, 32, 1, 31, 1, 30),
                     window(4, of(33, 32, 31, 30), of(5), NO));
             joined("3 and 4", Rows.plain(ALL), pieces(3, 30, 4, 50), window(7, of(30, 31, 32), of(169), of(50)));
@@ -99,6 +102,17 @@ final class EdgesOfJoining {
                     window(4, of(40, 41, 42, 43), of(5), NO));
             joined("DATA of SECOND like SOURCE", Rows.plain(ALL), Rows.plain(Rows.window(4, of(40, 41, 42, 43), of(5), NO)),
                     window(4, of(40, 41, 42, 43), of(5), NO));
+        });
+        edges.test(JOINED, "from an octet of DATA: it is no place of SOURCE, not one before SOURCE's first either", () -> {
+            for (int from = 0; from < 2; from++) {
+                int[] three = Rows.plain(Rows.window(1, 100, 0, Rows.tail(4, of(77), of(2, 19, 3), of(from))));
+                joined("three from " + from, Rows.plain(ALL), three,
+                        window(4, of(77, from, from + 1, from + 2), of(5), NO));
+                int[] four = Rows.plain(Rows.window(1, 100, 0, Rows.tail(5, of(77), of(2, 19, 4), of(from))));
+                joined("four from " + from, Rows.plain(ALL), four, window(5, of(77), of(163), of(from)));
+                joined("B's three from " + from, three, Rows.plain(Rows.window(1, 4, 0, Rows.tail(4, NO, of(20), of(0)))),
+                        window(4, of(77, from, from + 1, from + 2), of(5), NO));
+            }
         });
         edges.test(JOINED, "by copies of what was made before, in the same window and of TARGET so far", () -> {
             // B: 10 .. 13, and the same again from the window's own; then of TARGET so far.
@@ -162,6 +176,11 @@ final class EdgesOfJoining {
                 edges.is("instruction(" + i / 6 + ", " + i % 6 + ")", x.instruction(i / 6, i % 6), due[i / 6][i % 6]);
             }
             edges.is("it reads", x.read(), 61);
+            for (int i = 0; i < 20; i++) {
+                edges.is("octet " + i, x.octet(Rows.TARGET, i), x.octet(Rows.SOURCE, 300 + i));
+                edges.is("octet " + (20 + i), x.octet(Rows.TARGET, 20 + i), x.octet(Rows.SOURCE, 427 + i));
+                edges.is("octet " + (41 + i), x.octet(Rows.TARGET, 41 + i), x.octet(Rows.SOURCE, 940 + i));
+            }
         });
         edges.test(JOINED, "by the first table, whatever tables DELTA, SECOND and OWN TABLE are", () -> {
             CodedDeltas x = Faults.object(NO);

@@ -178,6 +178,18 @@ final class EdgesOfReading {
             edges.is("NEAR", x.octet(Rows.DELTA, 6), 4);
             edges.is("SAME", x.octet(Rows.DELTA, 7), 3);
         });
+        edges.test(READING, "the octet 0: by the first table, whatever OWN TABLE is", () -> {
+            CodedDeltas x = Faults.object(Rows.plain(FIVE_SIX));
+            Tables.clear(x);
+            x.caches(0, 0);
+            edges.is("OWN TABLE has no code", x.read(), 2);
+            edges.is("code 3 is ADD 2", x.instruction(0, 1), 2);
+            x.tableOctet(0, 255);
+            edges.is("OWN TABLE is not RIGHT", x.read(), 2);
+            Rows.set(x, Rows.DELTA, Rows.plain(Rows.window(1, 90, 0, Rows.tail(8, NO, of(20, 148), of(70, 70)))));
+            edges.is("NEAR 4, SAME 3", x.read(), 8);
+            edges.is("MODE 8 is the last same one", x.instruction(1, 2), 0);
+        });
         edges.test("Terms ANSWERS", "What a table's own DELTA has is no window, nor instruction, of those told", () -> {
             CodedDeltas x = faults.right("a table alone", told(4, 3, but(600, 3)));
             edges.is("windows", x.told(2), 0);

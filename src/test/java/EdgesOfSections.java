@@ -23,6 +23,7 @@ final class EdgesOfSections {
         addresses();
         addressNumbers();
         orderOfParts();
+        behindAFault();
         places();
         ends();
     }
@@ -175,6 +176,19 @@ final class EdgesOfSections {
             edges.is("no instruction", x.told(3), 0);
             Tables.tell(x, Rows.window(0, NO, of(40), NO));
             edges.is("15 of the first, 11 of the second", x.read(), -25);
+        });
+    }
+
+    private void behindAFault() {
+        edges.test(PART, "a second part is not looked at, if the first one has a fault", () -> {
+            CodedDeltas x = Faults.object(NO);
+            Tables.plain(x, 4, 3);
+            Tables.part(x, 40, 0, Tables.ADD, 1, 0);
+            Tables.part(x, 40, 1, Tables.COPY, 1, 0);
+            Tables.tell(x, Rows.window(1, 9, 0, Rows.tail(2, NO, of(40), of(0))));
+            edges.is("12 of the first", x.read(), -22);
+            edges.is("no instruction", x.told(3), 0);
+            edges.is("none is told", x.instruction(0, 0), -1);
         });
     }
 

@@ -26,8 +26,10 @@ final class EdgesOfWriting {
         farModes();
         nearModes();
         sameModes();
+        ownModes();
         modesByWindow();
         write();
+        again();
         room();
     }
 
@@ -173,6 +175,7 @@ final class EdgesOfWriting {
             written("the one before it", "", "abbbbb", 1, of(ADD, 2), of(COPY, 4, 1));
             written("two before it", "", "abababc", 1, of(ADD, 2), of(COPY, 4, 0), of(ADD, 1));
             written("the place itself is none", "", "abcde", 1, of(ADD, 5));
+            written("SOURCE's only octet", "a", "aaaaab", 1, of(COPY, 5, 0), of(ADD, 1));
             written("SOURCE's last octet", "xyza", "aaaaa", 1, of(COPY, 5, 3));
         });
         edges.test(WAYS, "the longest match may go from the segment on into the window", () -> {
@@ -273,13 +276,24 @@ final class EdgesOfWriting {
 
     /** TARGET is 20 octets of SOURCE (of so many) from each place, with three others behind each. */
     private void modesOf(String what, int sourceSize, int[] places, int... due) {
+        modesOf(what, new CodedDeltas(), sourceSize, places, due);
+    }
+
+    /** Likewise, with a plain OWN TABLE. */
+    private void ownModesOf(int near, int same, int[] places, int... due) {
         CodedDeltas x = new CodedDeltas();
+        Tables.plain(x, near, same);
+        modesOf("NEAR " + near + ", SAME " + same, x, 3000, places, due);
+    }
+
+    private void modesOf(String what, CodedDeltas x, int sourceSize, int[] places, int... due) {
         x.fill(Rows.SOURCE, 0, sourceSize, 3);
         for (int i = 0; i < places.length; i++) {
             x.copy(Rows.SOURCE, places[i], 20, Rows.TARGET);
             x.fill(Rows.TARGET, 0, 3, 7919 * (i + 1));
         }
-        x.write(1, 1, 4000, false);
+        // Where OWN TABLE is the first one, telling it changes no MODE.
+        x.write(1, 1, 4000, true);
         for (int i = 0; i < places.length; i++) {
             edges.is(what + ", address of " + i, x.instruction(2 * i, 2), places[i]);
             edges.is(what + ", MODE of " + i, x.instruction(2 * i, 3), due[i]);
@@ -328,12 +342,30 @@ final class EdgesOfWriting {
             modesOf("of the third 256", 3000, of(600, 300, 450, 150, 201, 600), 0, 0, 0, 0, 5, 8);
             modesOf("of the second 256", 3000, of(511, 1000, 1200, 1400, 1600, 511), 0, 0, 0, 0, 0, 7);
             modesOf("of the first 256", 3000, of(255, 1000, 1200, 1400, 1600, 255), 0, 0, 0, 0, 0, 6);
+            modesOf("256 is of the second 256", 3000, of(256, 1000, 1200, 1400, 1600, 256), 0, 0, 0, 0, 0, 7);
+            modesOf("512 is of the third 256", 3000, of(512, 1000, 1200, 1400, 1600, 512), 0, 0, 0, 0, 0, 8);
             modesOf("768 is of the first 256", 3000, of(768, 1000, 1200, 1400, 1600, 768), 0, 0, 0, 0, 0, 6);
             modesOf("767 is of the third 256", 3000, of(767, 1000, 1200, 1400, 1600, 767), 0, 0, 0, 0, 0, 8);
         });
         edges.test(MODES, "a same one is gone where another one took its place", () -> {
             modesOf("768 more", 3000, of(600, 1368, 1000, 1200, 1600, 2000, 600), 0, 0, 0, 0, 0, 0, 0);
             modesOf("the other one is there", 3000, of(600, 1368, 1000, 1200, 1600, 2000, 1368), 0, 0, 0, 0, 0, 0, 8);
+        });
+    }
+
+    private void ownModes() {
+        edges.test(MODES, "by OWN TABLE's NEAR and SAME, at their ends", () -> {
+            ownModesOf(0, 0, of(300, 310, 300), 0, 0, 0);
+            ownModesOf(0, 1, of(300, 310, 300), 0, 0, 2);
+            ownModesOf(0, 1, of(300, 556, 300), 0, 0, 0);
+            ownModesOf(0, 4, of(1023, 1500, 1023), 0, 0, 5);
+            ownModesOf(0, 4, of(1024, 1500, 1024), 0, 0, 2);
+            ownModesOf(1, 0, of(300, 310, 600, 310), 0, 2, 0, 0);
+            ownModesOf(1, 1, of(300, 310, 600, 310), 0, 2, 0, 3);
+            int[] eight = {300, 600, 900, 1200, 1500, 1800, 2100, 2400, 2410, 310};
+            ownModesOf(8, 0, eight, 0, 0, 0, 0, 0, 0, 0, 0, 9, 0);
+            int[] again = {300, 600, 900, 1200, 1500, 1800, 2100, 2400, 310};
+            ownModesOf(8, 4, again, 0, 0, 0, 0, 0, 0, 0, 0, 2);
         });
     }
 
@@ -418,6 +450,33 @@ final class EdgesOfWriting {
                 edges.isTrue("written", size > 0 && size == x.length(Rows.DELTA));
                 edges.is("it reads", x.read(), 4000);
                 edges.isTrue("TARGET again", Arrays.equals(Rows.get(x, Rows.TARGET), target));
+            }
+        });
+    }
+
+    /** Rows by rules, others in each round. */
+    private static void setRound(CodedDeltas x, int round) {
+        x.feed(Rows.SOURCE, 0, 0);
+        x.feed(Rows.TARGET, 0, 0);
+        x.fill(Rows.SOURCE, round % 4, 60 + 37 * (round % 9), round);
+        x.fill(Rows.TARGET, 1, 10 + round % 30, 7 * round);
+        x.copy(Rows.SOURCE, round % 50, 10 + round % 40, Rows.TARGET);
+        x.fill(Rows.TARGET, 3 - round % 4, 90, 3 * round);
+        x.copy(Rows.TARGET, round % 20, 60, Rows.TARGET);
+    }
+
+    private void again() {
+        edges.test("Promise 12", "What leads from SOURCE to TARGET, whatever was written before", () -> {
+            CodedDeltas x = new CodedDeltas();
+            for (int round = 1; round <= 120; round++) {
+                CodedDeltas fresh = new CodedDeltas();
+                int way = round % 3;
+                int by = round / 3 % 3;
+                int window = round % 2 == 0 ? 4000 : 50 + round % 60;
+                setRound(x, round);
+                setRound(fresh, round);
+                edges.is("round " + round, x.write(way, by, window, false), fresh.write(way, by, window, false));
+                edges.isTrue("DELTA of round " + round, Arrays.equals(Rows.get(x, Rows.DELTA), Rows.get(fresh, Rows.DELTA)));
             }
         });
     }
