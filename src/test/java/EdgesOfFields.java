@@ -201,6 +201,18 @@ final class EdgesOfFields {
             edges.is("windows", x.told(2), 3);
             edges.is("the window of the last", x.instruction(1, 5), 2);
         });
+        edges.test(FORM, "windows, up to the end: as many as DELTA has room for", () -> {
+            CodedDeltas x = Faults.object(Rows.plain());
+            for (int i = 0; i < 1142; i++) {
+                x.feed(Rows.DELTA, 0x00050000000000L, 7);
+            }
+            edges.is("read", x.read(), 0);
+            edges.is("windows", x.told(2), 1142);
+            edges.is("one octet more", x.feed(Rows.DELTA, 0, 1), 8000);
+            edges.is("read", x.read(), -11);
+            edges.is("PLACE", x.told(1), 8000);
+            edges.is("windows", x.told(2), 1142);
+        });
         edges.test(FORM, "1 a segment of SOURCE: all of it, its first octet, its last", () -> {
             int[] copy = Rows.tail(1, NO, of(19, 1), of(0));
             faults.right("all", Rows.plain(Rows.window(1, 100, 0, Rows.tail(1, NO, of(19, 1), of(99)))), 99);

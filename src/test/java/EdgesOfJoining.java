@@ -21,6 +21,7 @@ final class EdgesOfJoining {
         modes();
         faults();
         rows();
+        dearest();
         told();
         instructions();
     }
@@ -257,6 +258,33 @@ final class EdgesOfJoining {
             edges.is("joined once more", x.join(), 5 + 9 + 3 + 1);
             edges.is("it reads", x.read(), 3);
             edges.is("its first octet", x.octet(Rows.TARGET, 0), 31);
+        });
+    }
+
+    /** By the first table nothing costs more than ADD 18 and COPY 4 by turns: 23 octets for 22. */
+    private void dearest() {
+        edges.test("Promise 14", "-4 as for write(): the dearest C of 4000 octets has room", () -> {
+            CodedDeltas x = new CodedDeltas();
+            x.fill(Rows.SOURCE, 0, 4000, 1);
+            int[] codes = new int[3 * 182];
+            int[] addresses = new int[2 * 182];
+            int[] data = new int[18 * 182];
+            for (int i = 0; i < 182; i++) {
+                System.arraycopy(of(20, 1, 18), 0, codes, 3 * i, 3);
+                System.arraycopy(Rows.number(3840 - 20 * i), 0, addresses, 2 * i, 2);
+            }
+            // The last ADD has 14 octets, so that there are 4000 in all.
+            codes[codes.length - 1] = 14;
+            for (int i = 0; i < data.length; i++) {
+                data[i] = i % 251;
+            }
+            int[] window = Rows.window(1, 4000, 0, Rows.tail(4000, Arrays.copyOf(data, data.length - 4), codes, addresses));
+            Rows.set(x, Rows.SECOND, Rows.plain(window));
+            Rows.set(x, Rows.DELTA, Rows.plain(Rows.window(1, 4000, 0, Rows.tail(4000, NO, of(19, 159, 32), of(0)))));
+            // An ADD of 14 has a code of its own.
+            edges.is("joined", x.join(), 5 + window.length - 1);
+            edges.is("it reads", x.read(), 4000);
+            edges.is("instructions", x.told(3), 364);
         });
     }
 
